@@ -329,6 +329,9 @@ public final class PromisesTest {
         due(15, "children", b.best(0, 0, 2, 0), 9);
         due(15, "place, the least of all", b.best(25, 0, 3, 0), 0);
         due(15, "outcome then", b.best(25, 0, 3, 1), 10);
+        StatuteBook second = bookOf("if place 1 1 then pay 1");
+        due(15, "just behind 0", second.best(0, 0, 3, 0), 1);
+        due(15, "outcome then", second.best(0, 0, 3, 1), 1);
         bad(15, "best", b.best(-1, 0, 0, 0), b.best(0, 1000, 0, 0), b.best(0, 0, 4, 0), b.best(0, 0, -1, 0),
                 b.best(0, 0, 0, 2), b.best(0, 0, 0, -1), b.best(HIGHEST, HIGHEST, HIGHEST, HIGHEST));
     }
@@ -347,6 +350,9 @@ public final class PromisesTest {
         StatuteBook down = bookOf("if income 0 0 then pay 1;if income 0 98 then pay 2");
         int[] income = {2, 1, 2, 99, 2};
         for (int what = 0; what < 5; what++) due(16, "income, what " + what, down.jumps(0, 0, 1, what), income[what]);
+        StatuteBook steep = bookOf("if place 0 0 then pay 3");
+        int[] steps = {1, 1, 1, 1, 3};
+        for (int what = 0; what < 5; what++) due(16, "just behind 0, what " + what, steep.jumps(0, 0, 3, what), steps[what]);
         bad(16, "jumps", b.jumps(-1, 0, 0, 0), b.jumps(0, -1, 0, 0), b.jumps(0, 0, 4, 0), b.jumps(0, 0, 0, 5), b.jumps(0, 0, 0, -1),
                 b.jumps(LOWEST, HIGHEST, LOWEST, HIGHEST));
     }
@@ -435,6 +441,18 @@ public final class PromisesTest {
         due(21, "no day behind", b.until(0, 999), -1);
         b.span(1, 999, 999);
         due(21, "the last day", b.until(0, 500), 999);
+        StatuteBook many = new StatuteBook();
+        for (int c = 0; c < 12; c++) {
+            many.clause();
+            many.span(c, 10 + c, 30 + 2 * c);
+        }
+        many.span(11, 100, 110);
+        due(21, "days that bring nothing", many.until(0, 0), -1);
+        many.grant(11, 0, 0, 1, 0);
+        due(21, "behind days that bring nothing", many.until(0, 0), 100);
+        many.grant(10, 0, 0, 1, 0);
+        many.span(10, 5, 99);
+        due(21, "behind days that bring nothing", many.until(0, 5), 111);
         due(21, "no clauses", new StatuteBook().until(0, 0), -1);
         bad(21, "until", b.until(-1, 0), b.until(LAST_PROFILE + 1, 0), b.until(0, -1), b.until(0, 1000), b.until(HIGHEST, HIGHEST));
     }
@@ -478,6 +496,12 @@ public final class PromisesTest {
         due(24, "all places", b.touches(10, 0, 3, 0), 8);
         due(24, "all have more", b.touches(30, 0, 3, 3), 0);
         due(24, "more by", b.touches(30, 0, 3, 2), 20);
+        StatuteBook zero = bookOf("if place 0 0 then pay 3");
+        int[] gained = {1, 0, 3, 0}, lost = {1, 0, 3, 1};
+        for (int what = 0; what < 4; what++) due(24, "none was marked, what " + what, zero.touches(7, 0, 3, what), gained[what]);
+        zero.mark();
+        zero.drop();
+        for (int what = 0; what < 4; what++) due(24, "none is left, what " + what, zero.touches(7, 0, 3, what), lost[what]);
         bad(24, "touches", b.touches(-1, 0, 0, 0), b.touches(0, 1000, 0, 0), b.touches(0, 0, 4, 0), b.touches(0, 0, -1, 0),
                 b.touches(0, 0, 0, 4), b.touches(0, 0, 0, -1), b.touches(LOWEST, HIGHEST, HIGHEST, LOWEST));
     }
@@ -493,6 +517,16 @@ public final class PromisesTest {
             for (int i = 0; i < n; i++) young += drawnProfile(z) % 100 <= 49 ? 1 : 0;
             due(25, "drawn " + n, b.drawn(0, n), young);
             due(25, "z", b.count(3), z[0]);
+        }
+        StatuteBook few = bookOf("if place 7 7 then pay 5;if marks 24 0 then pay 5");
+        few.seed(z[0]);
+        for (int k = 0; k < 5; k++) {
+            int met = 0;
+            for (int i = 0; i < 50; i++) {
+                int p = drawnProfile(z);
+                met += few.trait(p, 3) == 7 || few.trait(p, 4) >= 24 ? 1 : 0;
+            }
+            due(25, "drawn by place and marks", few.drawn(0, 50), met);
         }
         b.mark();
         due(25, "none is touched", b.drawn(0, 50), 0);
@@ -537,7 +571,12 @@ public final class PromisesTest {
         due(29, "nothing kept", b.forget(), 0);
         due(29, "nowhere", b.filed(3, 0), -1);
         due(29, "never", b.filed(3, 1), 0);
+        b.test(3, 3, 0, 1, 1);
         due(29, "anew", b.file(3), 0);
+        due(29, "its place", b.filed(3, 0), 0);
+        b.test(3, 0, 0, 1, 1);
+        due(29, "another how", b.filed(3, 0), -1);
+        b.test(3, 3, 0, 1, 1);
         due(29, "once", b.filed(3, 1), 1);
     }
 
@@ -564,6 +603,19 @@ public final class PromisesTest {
         b.test(0, 0, 0, 0, 0);
         b.grant(0, 0, 0, 0, 0);
         due(28, "two and two", b.alike(), 4);
+        int[][] tests = {{0, 0, 0, 0}, {3, 0, 0, 0}, {1, 0, 0, 0}, {1, 1, 0, 0}, {1, 0, 1, 0}, {1, 0, 0, 1}};
+        int[][] grants = {{0, 0, 0, 0}, {3, 0, 0, 0}, {2, 0, 0, 0}, {2, 1, 0, 0}, {2, 0, 1, 0}, {2, 0, 0, 1}};
+        StatuteBook apart = new StatuteBook();
+        for (int c = 0; c < 6; c++) {
+            apart.clause();
+            apart.test(c, tests[c][0], tests[c][1], tests[c][2], tests[c][3]);
+        }
+        due(28, "each test is another one", apart.alike(), 0);
+        for (int c = 0; c < 6; c++) {
+            apart.test(c, 0, 0, 0, 0);
+            apart.grant(c, grants[c][0], grants[c][1], grants[c][2], grants[c][3]);
+        }
+        due(28, "each grant is another one", apart.alike(), 0);
     }
 
     private static void feeding() {
@@ -623,13 +675,13 @@ public final class PromisesTest {
     }
 
     private static void textFaults() {
-        String[] faults = {"|", " |", "   |", "if|", "if |", "|then", "|iff", "|i f", "|5", "|;", "|IF", "|If always then pay 1",
+        String[] faults = {"|", " |", "   |", "if|", "if |", "|then", "|iff", "|ifz always then pay 1", "|of always then pay 1", "|i f", "|5", "|;", "|IF", "|If always then pay 1",
             "if |if", "if |then", "if |alwaysthen pay 1", "if always|", "if always |pay", "if always |always", "if always |1 2 then",
             "if |not age 1 2", "if age |then", "if age not |not", "if age 1|", "if age 1 |then", "if age |100 2", "if age 1 |100",
             "if age 99 |1000", "if age 1 2 |3 then", "if age |-1 2", "if age 1|,2", "if marks |not 1 2", "if marks |32 0", "if marks 0 |32",
-            "if marks 31 31 |pay", "if |mark 1 2", "if age 1 2 |not", "if always then|", "if always then |paid 1", "if always then pay|",
+            "if marks 31 31 |pay", "if |mark 1 2", "if age 1 2 |not", "if always then|", "if always then |paid 1", "if always then |may 1", "if always then pay|",
             "if always then pay |age", "if always then pay |1000", "if always then pay |99999999999999999999", "if always then pay 1 |2",
-            "if always then nothing |1", "if always then cap |1", "if always then cap age|", "if always then cap |marks 1",
+            "if always then nothing |1", "if always then cap |1", "if always then cap age|", "if always then cap|", "if always then cap |from 1 to 2", "if always then per |;", "if always then cap |marks 1",
             "if always then cap age 1 |1", "if always then cap age |1000", "if always then per |5 5", "if always then per |marks 5 5",
             "if always then per age 5|", "if always then per age 5 |0", "if always then per age 5 |100", "if always then per age |1000 5",
             "if always then less age 5 |100", "if always then less |always 5 5", "if always then less age 5|", "if always then pay 1 from|",
@@ -679,7 +731,7 @@ public final class PromisesTest {
         due(34, "below 0", b.sheet(0, 0, -1), -14);
         due(34, "below 0", b.sheet(3, 2, LOWEST), -14);
         due(34, "still missing", b.item(0, 0), NO - 11);
-        int[] values = {0, 1, -1, 3, -3, 7, 1000, LOWEST, HIGHEST, LOWEST + 1};
+        int[] values = {5, 1, 2, 4, 8, -1, 0, 3, -3, 7, 1000, LOWEST, HIGHEST, LOWEST + 1};
         for (int s = 0; s < 3; s++) {
             due(34, "sheet", b.sheet(s, s, 40), 1);
             due(34, "all 0 or no", b.item(s, 39), 0);
@@ -750,7 +802,13 @@ public final class PromisesTest {
             }
             due(38, "behind it", b.item(s, 11), s == 0 ? Double.doubleToLongBits(2.5) : s == 1 ? 1 : 5);
         }
-        due(38, "the sheet ends", b.lay(0, 0, 0, 2), 12);
+        StatuteBook all = bookOf("if always then per age 3 1;if always then pay 1");
+        all.sheet(0, 2, 40);
+        due(38, "the sheet ends", all.lay(99, 0, 0, 0), 40);
+        for (int v = 0; v < 40; v++) due(38, "number " + v, all.item(0, v), 3 * v + 1);
+        for (int i = 0; i < 40; i++) all.write(0, i, -1);
+        due(38, "places", all.lay(99, 0, 3, 0), 8);
+        for (int v = 0; v < 40; v++) due(38, "number " + v, all.item(0, v), v < 8 ? 298 : -1);
         due(38, "places", b.lay(0, 0, 3, 2), 8);
         b.sheet(2, 2, 0);
         due(38, "none", b.lay(0, 0, 0, 2), 0);
@@ -772,8 +830,12 @@ public final class PromisesTest {
         b.drop();
         b.clause();
         b.clause();
+        b.forget();
+        b.clause();
+        b.test(3, 5, 0, 6, 7);
+        b.grant(3, 2, 3, 8, 9);
+        b.file(3);
         b.file(0);
-        b.file(1);
         b.seed(45);
         b.mark();
         b.write(0, 0, 8);
@@ -783,6 +845,7 @@ public final class PromisesTest {
             due(40, "clauses", b.outcome(0, 0), 5);
             due(40, "clauses", b.outcome(0, 5), 6);
             due(40, "register", b.count(1), 1);
+            due(40, "register", b.filed(0, 0), 0);
             due(40, "register", b.filed(0, 1), 2);
             due(40, "z", b.count(3), 44);
             due(40, "what was marked stays", b.touched(0, 0), -95);
