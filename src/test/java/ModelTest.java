@@ -14,7 +14,8 @@ import java.util.regex.Pattern;
  * Java: every answer must be the same, and the state is compared through the calls that tell it.
  */
 public final class ModelTest {
-    private static final int RUNS = 3000, CALLS = 512;
+    /** A run is 512 calls, as nothing is promised behind them; each second one keeps the last of them to compare the state. */
+    private static final int RUNS = 4000, CALLS = 512, TO_COMPARE = 4 + 12 * 13 + 4 * 40;
 
     /** Each call with what its arguments are: the kinds that draw() knows. */
     private static final String[] CALLS_AND_KINDS = {"clause", "clause", "clause", "test c h t n n", "test c h t n n",
@@ -36,8 +37,11 @@ public final class ModelTest {
     private static final Map<String, Method> ofBook = new HashMap<>(), ofModel = new HashMap<>();
     private static final Map<String, Integer> good = new HashMap<>();
 
+    private final boolean compares;
+
     private ModelTest(long seed) {
         random = new Random(seed);
+        compares = seed % 2 == 1;
     }
 
     public static void main(String[] args) throws Exception {
@@ -62,11 +66,12 @@ public final class ModelTest {
     }
 
     private boolean run() throws Exception {
-        for (int i = 0; i < CALLS; ) {
+        int most = compares ? CALLS - TO_COMPARE : CALLS;
+        for (int i = 0; i < most; ) {
             String[] call = CALLS_AND_KINDS[random.nextInt(CALLS_AND_KINDS.length)].split(" ");
             if (call[0].equals("TEXT")) {
                 byte[] bytes = lawText().getBytes("ISO-8859-1");
-                if (bytes.length > 120 || i + bytes.length > CALLS - 2) continue;
+                if (bytes.length > 120 || i + bytes.length > most - 2) continue;
                 if (!same("wipe")) return false;
                 for (byte b : bytes) if (!same("feed", (int) b, 1)) return false;
                 if (!same("text")) return false;
@@ -78,7 +83,7 @@ public final class ModelTest {
             if (!same(call[0], arguments)) return false;
             i++;
         }
-        return sameState();
+        return !compares || sameState();
     }
 
     private boolean sameState() throws Exception {
