@@ -88,6 +88,8 @@ public final class LanguageTest {
         String[] lines = source.split("\n");
         for (int i = 0; i < lines.length; i++) {
             must(lines[i].length() <= 140, "line " + (i + 1) + " is at most 140 signs long");
+            boolean makes = lines[i].replaceAll("//.*|^ *\\*.*", "").matches(".*\\bnew [A-Za-z].*");
+            must(!makes || lines[i].matches(" +private final .*"), "line " + (i + 1) + " makes objects with the book alone, and no call does");
             if (lines[i].matches(" {4,8}(public|private|static|int|long|boolean|void|String)\\b.*\\) \\{")) began = i;
             if (began >= 0 && lines[i].matches(" {4,8}\\}")) {
                 must(i - began < 60, "the method of line " + (began + 1) + " is short");
